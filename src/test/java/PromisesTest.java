@@ -196,7 +196,8 @@ public final class PromisesTest {
             "add(6, 4000, 60, 0) = 0", "add(0, 4900, 0, 0) = 1", "add(0, 4901, 0, 0) = 2",
             "enter(1, 12) = 54", "enter(0, 12) = 46", "leave(1) = 1", "leave(0) = 0", "tell(0, 2) = 50",
             "add(6, 4000, 60, 0) = 3", "enter(2, 12) = 54", "enter(3, 12) = " + STOPPED, "tell(3, 2) = 100");
-        SwingBridge cab = run("promise 6, RULES of a CAB", new SwingBridge(), "add(3, 1000, 0, 0) = 0", "enter(0, 12) = 26");
+        SwingBridge cab = run("promise 6, RULES of a CAB", new SwingBridge(),
+            "add(3, 1000, 0, 0) = 0", "enter(0, 12) = 26");
         // ENTER: CAB, CART; FIT: CART, WEIGHT; TOLL: CAB, CAR, CART, WEIGHT.
         beganAre("promise 6, RULES of a CAB", cab, 5, 0, 1, 2, 0, 0, 0, 0, 0);
         SwingBridge x = run("promise 6, RULES of a LATE BUS", new SwingBridge(),
@@ -277,7 +278,8 @@ public final class PromisesTest {
             "add(6, 5000, 0, 100) = 0", "bill(0, 12) = 0", "add(6, 5000, 0, 0) = 1", "bill(1, 12) = 55",
             "bill(1, 0) = 55", "bill(1, 23) = 55", "add(6, 5000, 0, 90) = 2", "bill(2, 12) = 6");
         run("promise 9, nothing is paid by it", new SwingBridge(),
-            "add(0, 1, 0, 0) = 0", "add(0, 1, 0, 0) = 1", "add(3, 5000, 0, 0) = 2", "bill(2, 12) = 62", "tell(2, 5) = 0", "enter(2, 12) = 66", "bill(2, 12) = 63", "tell(2, 5) = 66");
+            "add(0, 1, 0, 0) = 0", "add(0, 1, 0, 0) = 1", "add(3, 5000, 0, 0) = 2", "bill(2, 12) = 62", "tell(2, 5) = 0",
+            "enter(2, 12) = 66", "bill(2, 12) = 63", "tell(2, 5) = 66");
     }
 
     private static void month() {
