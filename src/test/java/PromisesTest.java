@@ -263,7 +263,8 @@ public final class PromisesTest {
             "add(6, 5000, 0, 100) = 0", "bill(0, 12) = 0", "add(6, 5000, 0, 0) = 1", "bill(1, 12) = 55",
             "bill(1, 0) = 55", "bill(1, 23) = 55", "add(6, 5000, 0, 90) = 2", "bill(2, 12) = 6");
         new Trial().run("promise 9, nothing is paid by it",
-            "add(0, 1, 0, 0) = 0", "add(0, 1, 0, 0) = 1", "add(3, 5000, 0, 0) = 2", "bill(2, 12) = 62", "tell(2, 5) = 0",
+            "add(0, 1, 0, 0) = 0", "add(0, 1, 0, 0) = 1", "add(3, 5000, 0, 0) = 2", "bill(2, 12) = 62",
+            "tell(2, 5) = 0",
             "enter(2, 12) = 66", "bill(2, 12) = 63", "tell(2, 5) = 66");
     }
 

@@ -1,3 +1,8 @@
+import java.util.ArrayList;
+import java.util.LinkedHashMap;
+import java.util.List;
+import java.util.Map;
+
 /**
  * A new object and the calls that a test makes on it. A call is given as a name with numbers, or as a
  * row: the call, "=", and the answer that is due. A call that throws answers "throws." and the
@@ -47,6 +52,48 @@ final class Trial {
             due(title, sides[0], answer(sides[0]), sides[1]);
         }
         return this;
+    }
+
+    /** Makes the call of a row: it changes what the due rows say, and nothing else that can be asked. */
+    Trial changes(String title, String row, String... due) {
+        Map<String, String> before = state();
+        run(title, row);
+        List<String> changed = new ArrayList<>();
+        for (Map.Entry<String, String> told : state().entrySet()) {
+            if (!told.getValue().equals(before.get(told.getKey()))) {
+                changed.add(told.getKey() + " = " + told.getValue());
+            }
+        }
+        due(title, "what changed by " + row, changed, List.of(due));
+        return this;
+    }
+
+    /** Makes the call of a row: nothing is changed by it. */
+    Trial refused(String title, String row) {
+        return changes(title, row);
+    }
+
+    /** All that can be asked without a change, by calls. */
+    private Map<String, String> state() {
+        Map<String, String> told = new LinkedHashMap<>();
+        int vehicles = Integer.parseInt(answer("count", 0));
+        for (int i = 0; i < vehicles * 8; i++) {
+            ask(told, "tell(" + i / 8 + ", " + i % 8 + ")");
+        }
+        for (int i = 0; i < 24; i++) {
+            ask(told, "deck(" + i + ")");
+        }
+        for (int i = 0; i < KINDS; i++) {
+            ask(told, "began(" + i + ")");
+        }
+        for (int i = 0; i < 6; i++) {
+            ask(told, "count(" + i + ")");
+        }
+        return told;
+    }
+
+    private void ask(Map<String, String> told, String call) {
+        told.put(call, answer(call));
     }
 
     Trial beganAre(String title, int... want) {
