@@ -5,7 +5,7 @@ import java.lang.reflect.Modifier;
 import java.util.Set;
 import java.util.TreeSet;
 
-/** The class shows the document's face, and no member beside it but classes. */
+/** The class shows the document's face, and no member beside it: the classes inside are static and not shown. */
 public final class FaceTest {
     private static final Set<String> DUE = Set.of(
         "final UNKNOWN = -101", "final OUTSIDE = -102", "final STATE = -103", "final ROOM = -104",
@@ -38,6 +38,15 @@ public final class FaceTest {
                 shown.add((plain ? "" : m.toString() + " ")
                     + signature(m.getName(), m.getParameterTypes(), m.getExceptionTypes()));
             }
+        }
+        for (Class<?> inside : SwingBridge.class.getDeclaredClasses()) {
+            boolean hidden = (inside.getModifiers() & (Modifier.PUBLIC | Modifier.PROTECTED)) == 0;
+            if (!hidden || !Modifier.isStatic(inside.getModifiers())) {
+                shown.add("class " + inside.getSimpleName());
+            }
+        }
+        if (SwingBridge.class.getSuperclass() != Object.class || SwingBridge.class.getInterfaces().length > 0) {
+            shown.add("what it extends or implements");
         }
         boolean isFinal = SwingBridge.class.getModifiers() == (Modifier.PUBLIC | Modifier.FINAL);
         if (!isFinal || !shown.equals(DUE)) {
